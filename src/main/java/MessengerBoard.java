@@ -305,7 +305,9 @@ public final class MessengerBoard {
     if (order == NONE) {
       return NONE;
     }
-    clock.passTurns(trial, turns);
+    for (int passed = 0; passed < turns; passed++) {
+      clock.passTurn(trial);
+    }
     return trial.orders.get(order, ORDER_STATE);
   }
 
@@ -328,12 +330,14 @@ public final class MessengerBoard {
 
   private int arrivalAfter(int delay, int unit, int x, int y) {
     trial.copyFrom(now);
-    clock.passTurns(trial, delay);
+    for (int passed = 0; passed < delay; passed++) {
+      clock.passTurn(trial);
+    }
     int order = trial.addOrder(unit, x, y);
     if (order == NONE) {
       return NONE;
     }
-    // Patience ends each way at the latest on the turn that comes so many turns after the sending.
+    // No order is on its way longer than the greatest patience.
     for (int turns = 0; turns <= MAX_PATIENCE; turns++) {
       clock.passTurn(trial);
       if (trial.orders.get(order, ORDER_STATE) != ON_ITS_WAY) {
@@ -346,7 +350,9 @@ public final class MessengerBoard {
   public int failing(int turns) throws IllegalArgumentException {
     needTurns(turns, 0);
     trial.copyFrom(now);
-    clock.passTurns(trial, turns);
+    for (int passed = 0; passed < turns; passed++) {
+      clock.passTurn(trial);
+    }
     int failures = 0;
     int count = now.orders.count();
     for (int order = 0; order < count; order++) {
@@ -936,6 +942,7 @@ public final class MessengerBoard {
   /** The distances of all cells to one target. */
   private static final class Distances {
     final int[] steps = new int[CELLS];
+    // Whether they hold for the walls as they are.
     boolean known;
 
     int from(int cell) {
@@ -1034,12 +1041,6 @@ public final class MessengerBoard {
 
     Clock(Paths paths) {
       this.paths = paths;
-    }
-
-    void passTurns(Situation situation, int turns) {
-      for (int passed = 0; passed < turns; passed++) {
-        passTurn(situation);
-      }
     }
 
     void passTurn(Situation situation) {
