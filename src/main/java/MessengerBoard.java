@@ -969,7 +969,7 @@ public final class MessengerBoard {
 
     /** To be called whenever the board or its walls change. */
     void forget() {
-      for (int target = 0; target < CELLS; target++) {
+      for (int target = 0; target < byTarget.length; target++) {
         if (byTarget[target] != null) {
           byTarget[target].known = false;
         }
