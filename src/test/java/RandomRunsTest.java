@@ -1,9 +1,14 @@
 /** Runs of made-up calls, each answered by MessengerBoard and by ReferenceBoard, which must agree. */
 public final class RandomRunsTest {
-  private static final int RUNS = 500;
-  private static final int CALLS = 200;
+  private static final int RUNS = 4000;
+  private static final int CHANGES = 120;
+  /** Nothing is promised of an object behind them. */
+  private static final int CALLS = 512;
+  /** What is left for looking when the changes end. */
+  private static final int LAST_LOOKS = 150;
 
   private long seed;
+  private int calls;
   private MessengerBoard board;
   private ReferenceBoard reference;
   private final StringBuilder log = new StringBuilder();
@@ -32,16 +37,18 @@ public final class RandomRunsTest {
   private void go() {
     begin();
     loadText();
-    for (int call = 0; call < CALLS && !differs; call++) {
+    for (int change = 0; change < CHANGES && calls < CALLS - LAST_LOOKS && !differs; change++) {
       change();
       look();
       if (oneIn(10)) {
-        lookAtAll();
+        lookAtRows(8);
       }
       if (oneIn(15)) {
         reachLimits();
       }
     }
+    lookAtTheWhole();
+    lookAtRows(CALLS - calls);
     Check.counted();
   }
 
@@ -49,9 +56,14 @@ public final class RandomRunsTest {
     log.append("new; ");
     board = new MessengerBoard();
     reference = new ReferenceBoard();
+    calls = 0;
   }
 
   private void both(String what, Check.Call ours, Check.Call theirs) {
+    if (calls == CALLS) {
+      return;
+    }
+    calls++;
     String got = Check.answerOf(ours);
     String want = Check.answerOf(theirs);
     log.append(what).append(" -> ").append(want).append("; ");
@@ -194,24 +206,12 @@ public final class RandomRunsTest {
     }
   }
 
-  private void lookAtAll() {
+  private void lookAtTheWhole() {
     for (int i = -1; i <= 12; i++) {
       int what = i;
       both("size(" + what + ")", () -> board.size(what), () -> reference.size(what));
       both("orders(" + what + ")", () -> board.orders(what), () -> reference.orders(what));
       both("formattedByte(" + what + ")", () -> board.formattedByte(what), () -> reference.formattedByte(what));
-    }
-    for (int r = -1; r <= 80; r++) {
-      for (int w = -1; w <= 10; w++) {
-        lookAtRow(r, w);
-      }
-    }
-    for (int r = 0; r < reference.size(4); r++) {
-      for (int t = 0; t <= reference.size(5); t += 1 + t / 20) {
-        int order = r;
-        int turn = t;
-        both("stateAt", () -> board.stateAt(order, turn), () -> reference.stateAt(order, turn));
-      }
     }
     both("crossed", board::crossed, reference::crossed);
     both("meanDelay", board::meanDelay, reference::meanDelay);
@@ -220,20 +220,34 @@ public final class RandomRunsTest {
     both("errorPosition", board::errorPosition, reference::errorPosition);
   }
 
-  private void lookAtRow(int row, int what) {
-    int kept = log.length();
-    if (row <= 6) {
-      both("unit(" + row + "," + what + ")", () -> board.unit(row, what), () -> reference.unit(row, what));
-      both("picket(" + row + "," + what + ")", () -> board.picket(row, what), () -> reference.picket(row, what));
+  private void lookAtRows(int looks) {
+    for (int i = 0; i < looks; i++) {
+      lookAtRow();
     }
-    if (row <= 20) {
-      both("plan(" + row + "," + what + ")", () -> board.plan(row, what), () -> reference.plan(row, what));
+  }
+
+  private void lookAtRow() {
+    int what = below(12) - 1;
+    int unit = row(reference.size(2));
+    int picket = row(reference.size(3));
+    int order = row(reference.size(4));
+    int event = row(reference.size(7));
+    int plan = row(reference.size(8));
+    int turn = below(reference.size(5) + 1);
+    switch (below(9)) {
+      case 0 -> both("unit(" + unit + "," + what + ")", () -> board.unit(unit, what), () -> reference.unit(unit, what));
+      case 1 -> both("picket(" + picket + "," + what + ")", () -> board.picket(picket, what),
+          () -> reference.picket(picket, what));
+      case 2, 3 -> both("order(" + order + "," + what + ")", () -> board.order(order, what),
+          () -> reference.order(order, what));
+      case 4, 5 -> both("event(" + event + "," + what % 5 + ")", () -> board.event(event, what % 5),
+          () -> reference.event(event, what % 5));
+      case 6 -> both("plan(" + plan + "," + what % 6 + ")", () -> board.plan(plan, what % 6),
+          () -> reference.plan(plan, what % 6));
+      case 7 -> both("wasAt(" + unit + "," + turn + ")", () -> board.wasAt(unit, turn), () -> reference.wasAt(unit, turn));
+      default -> both("stateAt(" + order + "," + turn + ")", () -> board.stateAt(order, turn),
+          () -> reference.stateAt(order, turn));
     }
-    if (row <= 40) {
-      both("order(" + row + "," + what + ")", () -> board.order(row, what), () -> reference.order(row, what));
-    }
-    both("event(" + row + "," + what + ")", () -> board.event(row, what), () -> reference.event(row, what));
-    log.setLength(kept);
   }
 
   /** Now and then: many orders at once, or turns up to the last one. */
@@ -274,17 +288,62 @@ public final class RandomRunsTest {
   }
 
   private String boardText() {
+    String text = switch (below(4)) {
+      case 0 -> ringText();
+      case 1 -> crowdText();
+      default -> mixedText();
+    };
+    return mutated(text, 12);
+  }
+
+  private String mixedText() {
     int width = 3 + below(oneIn(3) ? 10 : 4);
     int height = 3 + below(oneIn(3) ? 10 : 4);
     String text = "board " + width + " " + height + ";";
     int clauses = below(oneIn(4) ? 60 : 14);
     for (int i = 0; i < clauses; i++) {
-      String longer = text + clause(width, height);
-      if (longer.length() <= 600 && (oneIn(60) || loads(longer))) {
-        text = longer;
-      }
+      text = with(text, clause(width, height));
     }
-    return mutated(text, 12);
+    return text;
+  }
+
+  /** A ring, on which a unit comes back on the other side while messengers follow it: newer orders overtake older ones. */
+  private String ringText() {
+    int width = 6 + below(7);
+    String text = "board " + width + " 3;headquarters 0 1;unit " + (width - 1) + " 1 1;";
+    for (int x = 1; x < width - 1; x++) {
+      text += "wall " + x + " 1;";
+    }
+    for (int i = below(16); i > 0; i--) {
+      String plan = "plan 0 " + below(width) + " " + 2 * below(2) + " " + below(30) + ";";
+      text = with(text, oneIn(6) ? clause(width, 3) : plan);
+    }
+    return text;
+  }
+
+  /** As many units, pickets and plans as there can be, or nearly so. */
+  private String crowdText() {
+    int width = 4 + below(5);
+    int height = 3 + below(4);
+    String text = "board " + width + " " + height + ";";
+    for (int i = 5 + below(2); i > 0; i--) {
+      text = with(text, "unit " + below(width) + " " + below(height) + " " + (1 + below(3)) + ";");
+    }
+    for (int i = 3 + below(2); i > 0; i--) {
+      int period = 2 + below(19);
+      int last = below(period);
+      text = with(text, "picket " + below(width) + " " + below(height) + " " + below(3) + " " + period + " "
+          + below(last + 1) + " " + last + ";");
+    }
+    for (int i = 17 + below(4); i > 0; i--) {
+      text = with(text, "plan " + below(6) + " " + below(width) + " " + below(height) + " " + below(40) + ";");
+    }
+    return text;
+  }
+
+  private String with(String text, String clause) {
+    String longer = text + clause;
+    return longer.length() <= 600 && (oneIn(60) || loads(longer)) ? longer : text;
   }
 
   private boolean loads(String text) {
