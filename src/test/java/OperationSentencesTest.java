@@ -476,6 +476,11 @@ public final class OperationSentencesTest {
     b.send(2, 5, 2);
     b.pass(1);
     Check.due("intercepted", () -> b.wall(5, 2), 3);
+    MessengerBoard late = TermsSentencesTest.overtaken(3, 4, 0);
+    Check.due("on its way when it is overtaken", () -> late.wall(0, 2), -3);
+    late.wall(3, 0);
+    late.pass(1);
+    Check.due("late", () -> late.wall(0, 2), 3);
   }
 
   private static void wallOnPlan() {

@@ -180,6 +180,12 @@ public final class TextSentencesTest {
       } else if (value < '0' || value > '9') {
         Check.badText(between, 1, 7);
       }
+      boolean letter = value >= 'a' && value <= 'z';
+      if (letter) {
+        Check.badText("board 3 3;wall" + (char) value + "1 1;", 1, 10);
+      } else if (value != ' ' && value != '\n' && (value < '0' || value > '9')) {
+        Check.badText("board 3 3;wall" + (char) value + "1 1;", 1, 14);
+      }
     }
     Check.badText("board 3 3;;", 1, 10);
     Check.badText("board 3 3;wall 1 1;;", 1, 19);
